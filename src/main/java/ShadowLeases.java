@@ -61,7 +61,7 @@ public final class ShadowLeases {
             throw new IllegalStateException("there is no room for this building");
         }
         square.buildings.add(site);
-        square.setCoverer(site, number);
+        square.setCovered(site, true);
         forgetShades();
         return number;
     }
@@ -77,7 +77,7 @@ public final class ShadowLeases {
             }
         }
         site.stands = false;
-        square.setCoverer(site, NONE);
+        square.setCovered(site, false);
         forgetShades();
         return ended;
     }
@@ -138,18 +138,16 @@ public final class ShadowLeases {
 
     /** Returns to whose shade a cell belongs; -1 if to none, -2 if a building covers it. */
     public int shade(int hour, int x, int y) throws IndexOutOfBoundsException {
-        Hour now = measuredHour(hour);
         needIndex(x, SIDE);
         needIndex(y, SIDE);
-        return now.holder[x + SIDE * y];
+        return measuredHour(hour).holder[x + SIDE * y];
     }
 
     /** Returns in the shade of how many buildings a cell lies; 0 if one covers it. */
     public int shades(int hour, int x, int y) throws IndexOutOfBoundsException {
-        Hour now = measuredHour(hour);
         needIndex(x, SIDE);
         needIndex(y, SIDE);
-        return now.layers[x + SIDE * y];
+        return measuredHour(hour).layers[x + SIDE * y];
     }
 
     /** Returns how many cells the shade of a building has. */
@@ -240,10 +238,10 @@ public final class ShadowLeases {
     /** Returns the cell of this index among those that a lease gets; -1 if there is none. */
     public int cellOf(int lease, int hour, int index) throws IndexOutOfBoundsException {
         Lease asked = leaseAt(lease);
-        Hour now = allottedHour(hour);
         if (index < 0) {
             throw new IndexOutOfBoundsException("the index is less than 0");
         }
+        Hour now = allottedHour(hour);
         if (index >= now.givenTo(lease)) {
             return NONE;
         }
@@ -649,17 +647,13 @@ public final class ShadowLeases {
         }
     }
 
-    /** All buildings, and which of them covers which cell. */
+    /** All buildings, and the cells that those which stand cover. */
     private static final class Square {
         final ArrayList<Building> buildings = new ArrayList<>();
-        private final int[] coverers = new int[CELLS];
-
-        Square() {
-            Arrays.fill(coverers, NONE);
-        }
+        private final boolean[] covered = new boolean[CELLS];
 
         boolean isCovered(int cell) {
-            return cell >= 0 && cell < coverers.length && coverers[cell] != NONE;
+            return cell >= 0 && cell < covered.length && covered[cell];
         }
 
         boolean isFree(Building site) {
@@ -673,12 +667,12 @@ public final class ShadowLeases {
             return true;
         }
 
-        void setCoverer(Building site, int coverer) {
+        void setCovered(Building site, boolean covers) {
             for (int y = site.y; y < site.y + site.deep; y++) {
                 for (int x = site.x; x < site.x + site.wide; x++) {
                     int cell = x + SIDE * y;
-                    if (cell >= 0 && cell < coverers.length) {
-                        coverers[cell] = coverer;
+                    if (cell >= 0 && cell < covered.length) {
+                        covered[cell] = covers;
                     }
                 }
             }

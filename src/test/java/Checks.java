@@ -30,6 +30,8 @@ final class Checks {
             call.getAsDouble();
         } catch (RuntimeException thrown) {
             got = thrown.getClass().getSimpleName();
+            String thrower = thrown.getStackTrace()[0].getClassName();
+            note(thrower.equals("ShadowLeases"), what + " is thrown by " + thrower);
         }
         note(got.equals(due.getSimpleName()), what + " threw " + got + ", due is " + due.getSimpleName());
         is(what + " leaves the digest", x.digest(), before);

@@ -8,6 +8,7 @@ public final class PromiseTest {
         promise1();
         promise2();
         promise2Refuses();
+        promise2Corners();
         promise3();
         promise4();
         promise5();
@@ -15,6 +16,7 @@ public final class PromiseTest {
         promise7();
         promise7Reach();
         promise8();
+        promise8Ways();
         promise9();
         promise10();
         promise11();
@@ -37,6 +39,7 @@ public final class PromiseTest {
         promise22();
         promise23();
         promise24();
+        firstAndLastHour();
         CHECKS.finish();
     }
 
@@ -135,6 +138,24 @@ public final class PromiseTest {
         x.tearDown(5);
         CHECKS.refusesState(x, "build: a 13th", () -> x.build(0, 0, 1, 1, 1, 0));
         CHECKS.refusesArgument(x, "build: a 13th that is wrong", () -> x.build(0, 0, 1, 1, 1, 8));
+    }
+
+    private static void promise2Corners() {
+        ShadowLeases x = new ShadowLeases();
+        is("build: cell 0", x.build(0, 0, 1, 1, 1, 0), 0);
+        is("build: cell 255", x.build(15, 15, 1, 1, 1, 0), 1);
+        CHECKS.refusesState(x, "build: over cell 0", () -> x.build(0, 0, 2, 2, 1, 0));
+        CHECKS.refusesState(x, "build: over cell 255", () -> x.build(14, 14, 2, 2, 1, 0));
+        is("build: cell 0 is covered", x.shade(0, 0, 0), -2);
+        is("build: cell 255 is covered", x.shade(0, 15, 15), -2);
+        is("build: in the middle", x.build(6, 6, 2, 2, 1, 0), 2);
+        is("build: just above", x.build(6, 4, 2, 2, 1, 0), 3);
+        is("build: just below", x.build(6, 8, 2, 2, 1, 0), 4);
+        is("build: just left", x.build(4, 6, 2, 2, 1, 0), 5);
+        is("build: just right", x.build(8, 6, 2, 2, 1, 0), 6);
+        x.tearDown(0);
+        is("build: cell 0 is free", x.shade(0, 0, 0), -1);
+        is("build: cell 0 again", x.build(0, 0, 2, 2, 1, 0), 7);
     }
 
     private static void promise3() {
@@ -312,6 +333,23 @@ public final class PromiseTest {
         x.tearDown(1);
         is("shades: one is gone", x.shades(9, 15, 0), 1);
         is("shades: one is gone", x.shades(9, 5, 0), 1);
+    }
+
+    /** A building's own shade never overlaps itself, whatever way it falls. */
+    private static void promise8Ways() {
+        for (int dx = -1; dx <= 1; dx++) {
+            for (int dy = -1; dy <= 1; dy++) {
+                if (dx != 0 || dy != 0) {
+                    ShadowLeases x = new ShadowLeases();
+                    x.build(6, 6, 2, 2, 4, 0);
+                    x.setSun(3, dx, dy, 2);
+                    String told = "shades: towards " + dx + ", " + dy;
+                    is(told, x.area(0, 3), dx == 0 || dy == 0 ? 2 * 4 : 3 * 4);
+                    is(told, x.inHour(3, 1), 0);
+                    is(told, x.shades(3, dx < 0 ? 5 : dx == 0 ? 6 : 8, dy < 0 ? 5 : dy == 0 ? 6 : 8), 1);
+                }
+            }
+        }
     }
 
     private static void promise9() {
@@ -845,5 +883,33 @@ public final class PromiseTest {
         }
         is("digest: all numbers in their order", x.digest(), d);
         is("digest: the same again", x.digest(), d);
+    }
+
+    /** The first and the last hour, and the first cell, count like all others. */
+    private static void firstAndLastHour() {
+        ShadowLeases x = new ShadowLeases();
+        x.build(1, 0, 1, 1, 4, 2);
+        x.build(3, 0, 1, 1, 4, 2);
+        x.let(0, 6, 0, 0, 2, 10);
+        x.let(1, 7, 11, 11, 60, 1);
+        is("hour 0: cell 0", x.cellOf(0, 0, 0), 0);
+        is("hour 0: cell 0", x.cellOf(0, 0, 1), -1);
+        is("hour 0: area", x.area(0, 0), 1);
+        is("hour 0: overlapped", x.inHour(0, 1), 1);
+        is("hour 0: short", x.lease(0, 9), 1);
+        is("hour 11: short", x.lease(1, 9), 1);
+        is("hour 0: would get", x.wouldGet(0, 4), 10 + 10);
+        CHECKS.is("hour 0: fulfilled", x.fulfilled(), 11.0 / 62.0);
+        x.pass(1);
+        is("hour 0: paid", x.paid(6), 10);
+        is("hour 11: paid", x.paid(7), 10);
+        is("hour 0: warned", x.lease(0, 7), 1);
+        is("hour 11: warned", x.lease(1, 7), 1);
+        x.end(0);
+        is("hour 0: nothing is let", x.inHour(0, 2), 0);
+        x.setPrice(1, 2);
+        x.tearDown(1);
+        is("hour 0: nothing overlaps", x.inHour(0, 1), 0);
+        is("hour 11: the lease has ended", x.inHour(11, 2), 0);
     }
 }
