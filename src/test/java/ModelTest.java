@@ -34,8 +34,9 @@ public final class ModelTest {
     private void run(int seed) {
         for (int i = 0; i < CALLS; i++) {
             int kind = random.nextInt(100);
-            if (i % DIGEST_EVERY == DIGEST_EVERY - 1 || i == CALLS - 1) {
-                compare(seed, i, "digest", x::fulfilled, model::fulfilled);
+            if (i % DIGEST_EVERY == DIGEST_EVERY / 2) {
+                compare(seed, i, "fulfilled", x::fulfilled, model::fulfilled);
+            } else if (i % DIGEST_EVERY == DIGEST_EVERY - 1 || i == CALLS - 1) {
                 CHECKS.is("run " + seed + ", call " + i + ", digest", x.digest(), model.digest());
             } else if (kind < 40) {
                 change(seed, i, kind);

@@ -120,9 +120,9 @@ public final class RulesTest {
         }
         long sum = askAll(x, 3);
         long before = allocated();
-        sum += askAll(x, 100);
+        sum += askAll(x, 50);
         long made = allocated() - before;
-        CHECKS.isTrue("calls make objects: " + made + " bytes", made < 20_000);
+        CHECKS.isTrue("calls make objects: " + made + " bytes", made < 10_000);
         CHECKS.isTrue("an answer", sum != 0);
     }
 
