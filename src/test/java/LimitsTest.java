@@ -140,6 +140,8 @@ public final class LimitsTest {
         FULL.answers("28 leases are short", 28, x -> x.inHour(7, 3));
         FULL.answers("28 leases are evicted", 28, x -> x.pass(2));
         FULL.answers("40 leases end", 40, x -> x.tearDown(0));
+        FULL.answers("the first of 40 ends", 0, x -> x.tearDown(0) + x.lease(0, 6) - 40);
+        FULL.answers("the last of 40 ends", 0, x -> x.tearDown(0) + x.lease(39, 6) - 40);
         FULL.answers("the 40th ends", 0, x -> x.end(39));
         FULL.answers("the 40th's price", 50, x -> x.setPrice(39, 99));
         FULL.answers("fulfilled of 40", 12.0 / 40.0, ShadowLeases::fulfilled);

@@ -5,6 +5,7 @@ public final class TermsTest {
     public static void main(String[] args) {
         cutTowardsZero();
         cornerCells();
+        coveredCorners();
         daysFromZero();
         firstSuns();
         stepsFromOne();
@@ -26,9 +27,11 @@ public final class TermsTest {
         warningsAreZeroAgain();
         twoWarnings();
         duskBehindTheLastHour();
+        evictedLeavesItsCells();
         allOfOneDusk();
         paysForEachCell();
         amountsInAll();
+        allTenants();
         CHECKS.finish();
     }
 
@@ -70,6 +73,20 @@ public final class TermsTest {
             is("the corner's cell", x.cellOf(0, 4, 0), corner[2]);
             is("the corner's shade", x.shade(4, corner[0], corner[1]), 0);
             is("no cell beyond the corner", x.area(0, 4), 1);
+        }
+    }
+
+    private static void coveredCorners() {
+        for (int corner = 0; corner < 4; corner++) {
+            int column = corner % 2 * 15;
+            int row = corner / 2 * 15;
+            ShadowLeases x = post(column, row, 9);
+            x.build(column == 0 ? 1 : 14, row, 1, 1, 9, 0);
+            is("a covered corner", x.shade(0, column, row), -2);
+            is("a covered corner", x.shades(column == 0 ? 0 : 11, column, row), 0);
+            is("no shade on it", x.area(1, column == 0 ? 0 : 11), 0);
+            x.tearDown(0);
+            is("a corner that is free again", x.shade(column == 0 ? 0 : 11, column, row), 1);
         }
     }
 
@@ -396,6 +413,23 @@ public final class TermsTest {
         is("nothing was left for the other one", x.paid(4), 0);
     }
 
+    private static void evictedLeavesItsCells() {
+        ShadowLeases x = fourCells();
+        x.let(0, 1, 7, 8, 5, 9);
+        x.let(0, 2, 7, 8, 2, 8);
+        x.setSun(8, 1, 0, 1);
+        x.pass(1);
+        x.setPrice(1, 9);
+        is("behind the one that is warned", x.gets(1, 7), 0);
+        x.end(1);
+        x.let(0, 2, 7, 8, 2, 8);
+        is("evicted", x.pass(1), 1);
+        is("its cells are free", x.gets(2, 7), 2);
+        is("its cells are free", x.inHour(8, 3), 0);
+        x.pass(1);
+        is("they are paid for on the next day", x.paid(2), 2 * 2 * 8);
+    }
+
     /** Warnings tell of the day that is over: one that ends at its dusk leaves nothing to it. */
     private static void allOfOneDusk() {
         ShadowLeases x = fourCells();
@@ -424,6 +458,23 @@ public final class TermsTest {
         is("the owner 7", x.got(7), 20);
         is("the tenant 15", x.paid(15), 2 * 99 + 20);
         is("the tenant 0", x.paid(0), 3);
+    }
+
+    /** "what all tenants have paid": the first and the last, too. */
+    private static void allTenants() {
+        ShadowLeases x = post(0, 5, 8);
+        x.setSun(7, 1, 0, 6);
+        for (int tenant = 0; tenant < 15; tenant++) {
+            x.let(0, tenant, 7, 7, 1, 1 + tenant);
+        }
+        x.pass(1);
+        is("15 tenants", x.count(4), 15 * 16 / 2);
+        is("the first one", x.paid(0), 1);
+        x.end(0);
+        x.let(0, 15, 7, 7, 1, 99);
+        x.pass(1);
+        is("and the last one", x.paid(15), 99);
+        is("16 tenants", x.count(4), 120 + 119 + 99);
     }
 
     /** "what owners got, and tenants paid, in all" */
