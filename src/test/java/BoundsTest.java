@@ -474,6 +474,13 @@ public final class BoundsTest {
     private static void questionsChangeNothing() {
         VILLAGE.isLeftAlone("advise changes nothing", x -> x.advise(0, 11, 50, 1));
         VILLAGE.isLeftAlone("digest changes nothing", ShadowLeases::digest);
+        VILLAGE.isLeftAlone("fulfilled changes nothing", ShadowLeases::fulfilled);
+        VILLAGE.isLeftAlone("questions of an hour change nothing",
+            x -> x.shade(7, 6, 4) + x.shades(7, 6, 4) + x.area(0, 7) + x.inHour(7, 1) + x.inHour(7, 3));
+        VILLAGE.isLeftAlone("questions of leases change nothing",
+            x -> x.lease(0, 9) + x.gets(0, 7) + x.cellOf(0, 7, 0) + x.cellOf(1, 8, 60));
+        VILLAGE.isLeftAlone("questions of the registry change nothing",
+            x -> x.building(0, 7) + x.count(4) + x.got(0) + x.paid(1));
         for (int height = 1; height <= 9; height++) {
             int asked = height;
             VILLAGE.isLeftAlone("wouldGet changes nothing", x -> x.wouldGet(0, asked) + x.wouldGet(2, asked));
